@@ -3,14 +3,20 @@ import java.util.NoSuchElementException;
 /** Counts the answers that are not the ones that are due. */
 final class Check {
     private static int wrong = 0;
+    private static String words = "";
 
     private Check() {
+    }
+
+    /** The words of the document that the checks from here on are of. */
+    static void sentence(String ofDocument) {
+        words = "\"" + ofDocument + "\": ";
     }
 
     static void due(String what, long got, long want) {
         if (got != want) {
             wrong++;
-            System.out.println(what + ": " + got + ", due is " + want);
+            System.out.println(words + what + ": " + got + ", due is " + want);
         }
     }
 

@@ -22,7 +22,7 @@ public final class RandomRunsTest {
             x.set(random.nextInt(8), random.nextInt(32), random.nextInt(4096));
         }
         int steps = 0;
-        for (int i = 0; i < 12; i++) {
+        for (int i = 0; i < 10; i++) {
             x.control(random.nextInt(5), random.nextInt() & 0x00FFFFFF);
             x.control(Bench.PLACE, random.nextInt(4096));
             x.request(random.nextInt(16));
