@@ -127,35 +127,31 @@ public final class EdgeRunAndLookTest {
         });
     }
 
+    /** What a look shows at first, after one step, after two ... */
+    private static void lookAndStep(WindowCore x, int what, int... due) {
+        for (int i = 0; i < due.length; i++) {
+            Check.due("look(" + what + ") after " + i + " steps", x.look(what), due[i]);
+            x.step();
+        }
+    }
+
     private static void lookAtAnnulled() {
         Check.sentence("5 1 if the next instruction is annulled, else 0");
         WindowCore x = Bench.with(Code.branch(0, true, 1), 0, Code.branch(1, false, 1));
-        int[] due = {0, 1, 0, 0};
-        for (int i = 0; i < due.length; i++) {
-            Check.due("after " + i, x.look(5), due[i]);
-            x.step();
-        }
+        lookAndStep(x, 5, 0, 1, 0, 0);
     }
 
     private static void lookAtStopped() {
         Check.sentence("6 1 if it is stopped, else 0");
         WindowCore x = Bench.trapping(Code.NOTHING);
-        int[] due = {0, 0, 0, 1, 1};
-        for (int i = 0; i < due.length; i++) {
-            Check.due("after " + i, x.look(6), due[i]);
-            x.step();
-        }
+        lookAndStep(x, 6, 0, 0, 0, 1, 1);
     }
 
     private static void lookAtSteps() {
         Check.sentence("7 steps (not those of a stopped machine)");
         WindowCore x = Bench.trapping(Code.branch(0, true, 1));
         // Done, annulled, a trap, the one that stops, and two of a stopped machine.
-        int[] due = {0, 1, 2, 3, 4, 4, 4};
-        for (int i = 0; i < due.length; i++) {
-            Check.due("after " + i, x.look(7), due[i]);
-            x.step();
-        }
+        lookAndStep(x, 7, 0, 1, 2, 3, 4, 4, 4);
         x.run(9);
         Check.due("after a run of a stopped machine", x.look(7), 4);
     }
@@ -163,11 +159,7 @@ public final class EdgeRunAndLookTest {
     private static void lookAtTraps() {
         Check.sentence("8 traps (also the one that stopped it)");
         WindowCore x = Bench.trapping(Code.branch(0, true, 1));
-        int[] due = {0, 0, 0, 1, 2, 2, 2};
-        for (int i = 0; i < due.length; i++) {
-            Check.due("after " + i, x.look(8), due[i]);
-            x.step();
-        }
+        lookAndStep(x, 8, 0, 0, 0, 1, 2, 2, 2);
         x.control(Bench.STATUS, Bench.TRAPS);
         x.request(15);
         x.step();

@@ -1,6 +1,6 @@
 /** Edges of promises 2 to 8: the calls that set and show the state. */
 public final class EdgeStateCallsTest {
-    private static final int[] NO_ADDRESSES = {1, 2, 3, 4093, 4094, 4095, 4096, 4097, -1, -2, -3, -4, 0x7FFFFFFC,
+    private static final int[] NO_ADDRESSES = {1, 2, 3, 4093, 4094, 4095, 4096, 8192, -1, -2, -3, -4, -4096, 0x7FFFFFFC,
         Integer.MAX_VALUE, Integer.MIN_VALUE, Integer.MIN_VALUE + 1};
     private static final int[] NO_WINDOWS = {-1, 8, 15, 31, 32, Integer.MAX_VALUE, Integer.MIN_VALUE};
     private static final int[] NO_REGISTERS = {-1, 32, 33, Integer.MAX_VALUE, Integer.MIN_VALUE};
